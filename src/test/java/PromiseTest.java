@@ -35,6 +35,7 @@ public final class PromiseTest {
         count();
         order();
         tidying();
+        tidyingAtThePointer();
         droppingGone();
         droppingForSnapshots();
         tableEnds();
@@ -446,6 +447,8 @@ public final class PromiseTest {
                 table 0 9 -> 0
                 put 9 1 -> 4
                 flush -> 2
+                table 0 6 -> 4
+                table 0 7 -> 0
                 put 9 2 -> 5
                 flush -> 3
                 table 0 0 -> 2
@@ -454,6 +457,9 @@ public final class PromiseTest {
                 put 9 3 -> 6
                 flush -> 1
                 count 10 -> 3
+                table 1 0 -> IndexOutOfBoundsException
+                spoil 1 0 -> IndexOutOfBoundsException
+                spoil 2 0 -> IndexOutOfBoundsException
                 """).table(0, 4, 1, 3, 3, 9).levels(0, 1, 0, 0);
     }
 
@@ -626,6 +632,17 @@ public final class PromiseTest {
                 get 9 -1 -> 2
                 count 6 -> 6
                 """);
+        new Run("the entry is the first of the second block").calls("""
+                put 5 1 -> 1
+                snapshot -> 0
+                put 5 2 -> 2
+                put 5 3 -> 3
+                put 5 4 -> 4
+                put 5 5 -> 5
+                flush -> 1
+                get 5 0 -> 1
+                count 6 -> 2
+                """);
         // The first block ends with the key, the second begins with a greater one: both are read.
         new Run("a block of newer entries of the key alone").calls("""
                 snapshot -> 0
@@ -793,6 +810,14 @@ public final class PromiseTest {
                 get 1 -1 -> 1
                 get 5 -1 -> IllegalStateException
                 count 5 -> 0
+                """);
+        // Where tables stood before they were merged there are none now.
+        new Run("spoil behind the last table").again(32, "put 9 1").calls("""
+                spoil 1 0 -> IndexOutOfBoundsException
+                spoil 0 1 -> IndexOutOfBoundsException
+                spoil 0 0 -> 1
+                table 0 7 -> 0
+                table 1 2 -> IndexOutOfBoundsException
                 """);
         // The last three flushes are small, so that all 240 entries meet in one table.
         Run run = new Run("spoil the last of sixty blocks").calls("snapshot -> 0").again(236, "put 9 1");
@@ -972,6 +997,13 @@ public final class PromiseTest {
         run.table(0, 40, 1, 6, 18, 23).table(3, 46, 2, 6, 0, 5).table(6, 44, 2, 6, 56, 61);
         run.due("count 10", 0).due("get 0 -1", 0).due("get 63 -1", 630).due("count 5", 0);
         run.due("count 14", 10).due("table 17 3", 50).due("table 18 0", "IndexOutOfBoundsException");
+    }
+
+    private static void tidyingAtThePointer() {
+        // Pointer 1 is at 17, and the table from 17 on is not above it: the one behind it goes first.
+        Run run = new Run("tidying at the pointer").puts(0, 31).due("count 15", 17).puts(17, 17).puts(32, 62);
+        run.levels(0, 3, 5, 3).due("count 15", 52).due("count 16", 17).due("count 10", 0);
+        run.due("table 0 3", 17).due("table 0 4", 22).due("table 1 3", 53).due("table 2 3", 59).due("table 3 3", 23);
     }
 
     private static void droppingGone() {
