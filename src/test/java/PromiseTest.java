@@ -41,8 +41,7 @@ public final class PromiseTest {
         tableEnds();
         stuckOnLevelOne();
         spoiledAside();
-        System.out.println("PromiseTest: " + (Run.wrong() == 0 ? "all answers are as due" : Run.wrong() + " wrong"));
-        System.exit(Run.wrong() == 0 ? 0 : 1);
+        Run.end("PromiseTest");
     }
 
     /** Promise 1. */
@@ -169,7 +168,7 @@ public final class PromiseTest {
     }
 
     private static void putWhileBlocked() {
-        Run run = blocked("put while blocked").calls("""
+        Run run = new Run("put while blocked").stuck(8).calls("""
                 put 0 1 -> IllegalStateException
                 remove 0 -> IllegalStateException
                 put 64 1 -> IllegalArgumentException
@@ -191,16 +190,6 @@ public final class PromiseTest {
                 put 0 1 -> 65
                 """);
         run.due("count 11", 0);
-    }
-
-    /** Stuck at the first merge, with the most tables that level 0 may have, and 64 entries written. */
-    private static Run blocked(String name) {
-        Run run = new Run(name).puts(0, 7).due("spoil 0 1", 4).puts(0, 7).puts(0, 7).due("count 5", 0).puts(0, 7);
-        run.due("count 5", 1).levels(4, 0, 0, 0);
-        for (int i = 0; i < 3; i++) {
-            run.puts(0, 7);
-        }
-        return run.levels(7, 0, 0, 0).puts(0, 7).levels(8, 0, 0, 0).due("count 9", 8);
     }
 
     /** Promise 3. */
