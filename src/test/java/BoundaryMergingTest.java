@@ -3,6 +3,15 @@
  * of a run has the sentence's own words.
  */
 public final class BoundaryMergingTest {
+    private static final String SPAN = "with them go the TABLES of that LEVEL whose RANGE has something in common with "
+            + "the span from the least to the greatest KEY of all of them";
+    private static final String SPOILED =
+            "If any of their BLOCKS is SPOILED: nothing is done (no POINTER changes), the store is STUCK, and TIDYING is over";
+    private static final String OLDER = "Dropped are: an ENTRY if there is one of the same KEY among them that has a "
+            + "greater NUMBER, which is not above OLDEST";
+    private static final String GONE = "and one that is GONE, has a NUMBER not above OLDEST, and whose KEY lies in no "
+            + "RANGE of a TABLE of a deeper LEVEL";
+
     private BoundaryMergingTest() {
     }
 
@@ -89,7 +98,7 @@ public final class BoundaryMergingTest {
         Run.terms(words, "the least key is at the pointer").puts(0, 31).due("count 15", 17).puts(17, 17)
                 .puts(32, 62).levels(0, 3, 5, 3).due("count 15", 52).due("table 0 3", 17).due("table 0 4", 22)
                 .due("table 1 3", 53).due("table 2 3", 59).due("table 3 3", 23);
-        // The same a key higher.
+        // The table from 18 on is above the pointer at 17, and goes first.
         Run.terms(words, "the least key is next to the pointer").puts(0, 31).due("count 15", 17).puts(18, 18)
                 .puts(32, 62).levels(0, 3, 5, 3).due("count 15", 47).due("table 0 3", 48).due("table 3 3", 18);
     }
@@ -108,14 +117,12 @@ public final class BoundaryMergingTest {
 
     private static void pointerMoves() {
         String words = "POINTER l becomes its greatest KEY";
-        Run.terms(words, "all that it had is dropped").calls("snapshot -> 0").again(1, "remove 0").again(1, "remove 1")
-                .again(1, "remove 2").again(1, "remove 3").due("flush", 1).again(1, "remove 4").again(1, "remove 5")
-                .again(1, "remove 6").again(1, "remove 7").again(1, "remove 8").due("flush", 2).again(1, "remove 9")
-                .again(1, "remove 10").again(1, "remove 11").again(1, "remove 12").due("flush", 3)
-                .again(1, "remove 13").again(1, "remove 14").again(1, "remove 15").again(1, "remove 16")
-                .again(1, "remove 17").due("flush", 3).levels(0, 3, 0, 0).due("count 10", 0).due("count 15", -1)
-                .calls("release 0 -> 0").flushed(4, 30).flushed(5, 30).flushed(6, 30).flushed(3, 30)
-                .levels(0, 3, 0, 0).due("count 15", 5).due("count 10", 9).due("table 0 3", 6);
+        // For a snapshot all is kept at first; once it is released nothing is left of the table from 0 to 5.
+        Run.terms(words, "all that it had is dropped").due("snapshot", 0).flushedGone(1, 0, 1, 2, 3)
+                .flushedGone(2, 4, 5, 6, 7, 8).flushedGone(3, 9, 10, 11, 12).flushedGone(3, 13, 14, 15, 16, 17)
+                .levels(0, 3, 0, 0).due("count 10", 0).due("count 15", -1).due("release 0", 0).flushed(4, 30)
+                .flushed(5, 30).flushed(6, 30).flushed(3, 30).levels(0, 3, 0, 0).due("count 15", 5)
+                .due("count 10", 9).due("table 0 3", 6);
     }
 
     /** Two tables on level 1, number 4 with the keys 10 - 15 and number 5 with 20 - 25. */
@@ -123,9 +130,6 @@ public final class BoundaryMergingTest {
         return Run.terms(words, edge).flushed(1, 10, 11, 12).flushed(2, 13, 14, 15).flushed(3, 20, 21, 22)
                 .flushed(2, 23, 24, 25).table(0, 4, 1, 6, 10, 15).table(1, 5, 1, 6, 20, 25);
     }
-
-    private static final String SPAN = "with them go the TABLES of that LEVEL whose RANGE has something in common with "
-            + "the span from the least to the greatest KEY of all of them";
 
     private static void spanBeside() {
         twoOnLevelOne(SPAN, "from next to the one to next to the other").flushed(3, 16).flushed(4, 17).flushed(5, 18)
@@ -155,9 +159,6 @@ public final class BoundaryMergingTest {
                 .flushed(2, 20).flushed(3, 20).flushed(4, 20).flushed(1, 20).table(0, 9, 1, 5, 10, 31)
                 .due("count 10", 3);
     }
-
-    private static final String SPOILED =
-            "If any of their BLOCKS is SPOILED: nothing is done (no POINTER changes), the store is STUCK, and TIDYING is over";
 
     private static void spoiledAmongThem() {
         Run.terms(SPOILED, "a block of a table on level 0").stuck(4).calls("""
@@ -249,9 +250,6 @@ public final class BoundaryMergingTest {
                 """);
     }
 
-    private static final String OLDER = "Dropped are: an ENTRY if there is one of the same KEY among them that has a "
-            + "greater NUMBER, which is not above OLDEST";
-
     private static void olderOnes() {
         Run.terms(OLDER, "the greater number is the oldest").flushed(1, 9).puts(9, 9).due("snapshot", 0)
                 .due("flush", 2).flushed(3, 8).flushed(1, 8).due("count 10", 1).entries(0, 4, 3, 2)
@@ -272,14 +270,11 @@ public final class BoundaryMergingTest {
     }
 
     private static void olderOnesElsewhere() {
-        // The older entries of keys 20 and 25 are not among them: they went to level 2 before.
+        // The oldest entry of key 0 is not among them: it went to level 2 before.
         Run.terms(OLDER, "one that is not among them stays").puts(0, 31).flushed(7, 0).flushed(8, 0).flushed(9, 0)
                 .flushed(7, 0).due("count 10", 3).levels(0, 3, 4, 0).entries(0, 36).entries(3, 1, 2, 3, 4, 5, 6)
                 .due("get 0 -1", 0);
     }
-
-    private static final String GONE = "and one that is GONE, has a NUMBER not above OLDEST, and whose KEY lies in no "
-            + "RANGE of a TABLE of a deeper LEVEL";
 
     private static void goneUpToOldest() {
         Run.terms(GONE, "its number is the oldest").puts(9, 9).calls("""
@@ -301,50 +296,25 @@ public final class BoundaryMergingTest {
 
     private static void goneAboveDeeperRanges() {
         // Level 2 has 0 - 5, 6 - 11 and 12 - 17; level 1, which all goes along, is from 18 to 31.
-        Run.terms(GONE, "at the ends of ranges and next to them").puts(0, 31).calls("""
-                remove 0 -> 33
-                flush -> 7
-                remove 17 -> 34
-                flush -> 8
-                remove 18 -> 35
-                flush -> 9
-                remove 40 -> 36
-                flush -> 6
-                count 10 -> 3
-                """).levels(0, 3, 3, 0).table(0, 17, 1, 6, 0, 22).entries(0, 33, 34, 20, 21, 22, 23);
+        Run.terms(GONE, "at the ends of ranges and next to them").puts(0, 31).flushedGone(7, 0)
+                .flushedGone(8, 17).flushedGone(9, 18).flushedGone(6, 40).due("count 10", 3).levels(0, 3, 3, 0)
+                .table(0, 17, 1, 6, 0, 22).entries(0, 33, 34, 20, 21, 22, 23);
         // Even keys alone: level 2 has 0 - 10, 12 - 22 and 24 - 34, level 1 has 36 - 46 and more.
         Run even = Run.terms(GONE, "in a range without the key, and between two ranges");
         for (int key = 0; key <= 62; key += 2) {
             even.puts(key, key);
         }
-        even.levels(0, 3, 3, 0).calls("""
-                remove 5 -> 33
-                flush -> 7
-                remove 11 -> 34
-                flush -> 8
-                remove 35 -> 35
-                flush -> 9
-                remove 37 -> 36
-                flush -> 7
-                count 10 -> 3
-                """).entries(0, 33, 19, 20, 21, 22, 23);
-        Run.terms(GONE, "a range two levels deeper").puts(0, 63).levels(0, 3, 5, 4).calls("""
-                remove 23 -> 65
-                flush -> 13
-                remove 23 -> 66
-                flush -> 14
-                remove 23 -> 67
-                flush -> 15
-                remove 23 -> 68
-                flush -> 13
-                count 10 -> 3
+        even.levels(0, 3, 3, 0).flushedGone(7, 5).flushedGone(8, 11).flushedGone(9, 35).flushedGone(7, 37)
+                .due("count 10", 3).entries(0, 33, 19, 20, 21, 22, 23);
+        Run.terms(GONE, "a range two levels deeper").puts(0, 63).levels(0, 3, 5, 4).flushedGone(13, 23)
+                .flushedGone(14, 23).flushedGone(15, 23).flushedGone(13, 23).due("count 10", 3).calls("""
                 get 23 -1 -> NoSuchElementException
                 next 22 -1 -> 24
                 """);
     }
 
     private static void goneOverTheLastLevel() {
-        // Each time round the removes go a level down; from level 3 they vanish with what they hide.
+        // What is gone is kept above level 3 as long as its ranges are there, and dropped on the way to it.
         Run run = Run.terms(GONE, "nothing is deeper than level 3").puts(0, 63);
         for (int i = 0; i < 64; i++) {
             run.again(1, "remove " + i);

@@ -463,7 +463,7 @@ public final class BoundaryPromisesTest {
                 """);
         Run.promise(7, words, "0").puts(1, 3).due("crash 0", 0).due("count 1", 0);
         Run.promise(7, words, "100").puts(1, 3).due("sync", 3).puts(4, 7).due("crash 100", 7).due("count 1", 7);
-        Run.promise(7, words, "just as many as there are, one less, one more").puts(1, 7).calls("""
+        Run.promise(7, words, "no more than are synced").puts(1, 7).calls("""
                 sync -> 7
                 crash 0 -> 7
                 crash 1 -> 7
@@ -636,7 +636,7 @@ public final class BoundaryPromisesTest {
     }
 
     private static void flushAnswers() {
-        Run.promise(8, "Answers how many TABLES there are", "on all levels, or none at all").puts(0, 31)
+        Run.promise(8, "Answers how many TABLES there are", "on all levels").puts(0, 31)
                 .levels(0, 3, 3, 0).flushed(7, 1);
         Run.promise(8, "Answers how many TABLES there are", "none at all").again(31, "remove 9")
                 .due("count 1", 7).due("flush", 0);
@@ -1076,8 +1076,7 @@ public final class BoundaryPromisesTest {
                 count 4 -> 0
                 count 9 -> 2
                 """);
-        // The range is that of what is left: neither 1 nor 8 is looked for in the table any more.
-        Run.promise(14, words, "its range and its filter too").puts(1, 8).calls("""
+        Run.promise(14, words, "its range is that of the others").puts(1, 8).calls("""
                 spoil 0 0 -> 4
                 giveUp -> 4
                 get 4 -1 -> NoSuchElementException
@@ -1085,6 +1084,24 @@ public final class BoundaryPromisesTest {
                 count 7 -> 0
                 get 5 -1 -> 50
                 get 8 -1 -> 80
+                """);
+        // Blocks: four of key 0, four of 8, three of 63; the filter passes 2 for the sake of 0 and 8 together.
+        Run.promise(14, words, "its filter is that of the others").again(4, "put 0 1").again(3, "put 8 1").calls("""
+                open -> 7
+                put 8 1 -> 1
+                put 63 1 -> 2
+                put 63 1 -> 3
+                put 63 1 -> 4
+                close true -> 11
+                get 2 -1 -> NoSuchElementException
+                count 6 -> 1
+                count 7 -> 0
+                spoil 0 1 -> 4
+                giveUp -> 4
+                get 2 -1 -> NoSuchElementException
+                get 8 -1 -> NoSuchElementException
+                count 6 -> 1
+                count 7 -> 2
                 """);
     }
 

@@ -99,6 +99,14 @@ final class Run {
         return due("flush", tables);
     }
 
+    /** As flushed, but removes these keys. */
+    Run flushedGone(int tables, int... keys) {
+        for (int key : keys) {
+            number("remove " + key);
+        }
+        return due("flush", tables);
+    }
+
     /** Makes the same writing call so many times. */
     Run again(int times, String call) {
         for (int i = 0; i < times; i++) {
