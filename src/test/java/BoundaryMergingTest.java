@@ -315,6 +315,7 @@ public final class BoundaryMergingTest {
 
     private static void goneOverTheLastLevel() {
         // What is gone is kept above level 3 as long as its ranges are there, and dropped on the way to it.
+        // The last counts are PlainStore's answers, not counted by hand.
         Run run = Run.terms(GONE, "nothing is deeper than level 3").puts(0, 63);
         for (int i = 0; i < 64; i++) {
             run.again(1, "remove " + i);

@@ -218,6 +218,7 @@ public final class BoundaryTermsTest {
     }
 
     private static void deepestLevel() {
+        // How many there are in the end is PlainStore's answer, not counted by hand.
         Run.terms("a LEVEL 0 .. 3", "the last level takes all and gives none").puts(0, 63).puts(0, 63)
                 .levels(0, 3, 5, 12);
     }
